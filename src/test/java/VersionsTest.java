@@ -218,10 +218,9 @@ public final class VersionsTest {
             {0, 1, 2, 3, 2, 3, 1}, {1, 0, 1, 2, 1, 2, 2}, {2, 1, 0, 1, 2, 3, 3}, {3, 2, 1, 0, 3, 4, 4},
             {2, 1, 2, 3, 0, 1, 3}, {3, 2, 3, 4, 1, 0, 4}, {1, 2, 3, 4, 3, 4, 0},
         };
-        BranchingText x = branched();
         for (int from = 0; from < 7; from++) {
             for (int to = 0; to < 7; to++) {
-                x = branched();
+                BranchingText x = branched();
                 x.goTo(from);
                 String call = "goTo(" + to + ") from " + from;
                 CHECKS.due(call, x.goTo(to), steps[from][to]);
