@@ -19,19 +19,17 @@ public final class FaceTest {
         "int versions()", "int where(int)", "void wipe()");
 
     public static void main(String[] args) {
-        constants();
-        members();
-        CHECKS.end("FaceTest");
+        CHECKS.runAll(FaceTest.class);
     }
 
-    private static void constants() {
+    static void constants() {
         CHECKS.due("BAD", BranchingText.BAD, -1);
         CHECKS.due("EMPTY", BranchingText.EMPTY, -2);
         CHECKS.due("FULL", BranchingText.FULL, -3);
         CHECKS.due("ABSENT", BranchingText.ABSENT, -4);
     }
 
-    private static void members() {
+    static void members() {
         CHECKS.due("modifiers of the class", BranchingText.class.getModifiers(), Modifier.PUBLIC | Modifier.FINAL);
         Constructor<?>[] constructors = BranchingText.class.getDeclaredConstructors();
         CHECKS.due("constructors", constructors.length, 1);
@@ -44,10 +42,9 @@ public final class FaceTest {
         }
         Collections.sort(constants);
         CHECKS.dueSame("constants in sight", constants.toString(), "[ABSENT, BAD, EMPTY, FULL]");
-        methods();
     }
 
-    private static void methods() {
+    static void methods() {
         List<String> inSight = new ArrayList<>();
         Set<String> names = new HashSet<>();
         for (Method method : BranchingText.class.getDeclaredMethods()) {

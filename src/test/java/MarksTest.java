@@ -3,20 +3,10 @@ public final class MarksTest {
     private static final Checks CHECKS = new Checks();
 
     public static void main(String[] args) {
-        markSets();
-        markRefuses();
-        unmarkTakesAway();
-        whereRefuses();
-        nextMarkOfSeveral();
-        nextMarkRefuses();
-        comingMovesMarks();
-        goingMovesMarks();
-        goToMovesMarksByEveryStep();
-        marksThatAreNotSetStaySo();
-        CHECKS.end("MarksTest");
+        CHECKS.runAll(MarksTest.class);
     }
 
-    private static void markSets() {
+    static void markSets() {
         BranchingText x = Checks.holding("abc");
         for (int m = 0; m < 6; m++) {
             CHECKS.due("mark(" + m + ")", x.mark(m, m % 4, m % 2 == 0), true);
@@ -35,25 +25,7 @@ public final class MarksTest {
         CHECKS.due("mark in the empty text", new BranchingText().mark(0, 0, true), true);
     }
 
-    private static void markRefuses() {
-        BranchingText x = Checks.holding("abc");
-        x.mark(1, 2, true);
-        String before = Checks.stateOf(x);
-        for (int m : new int[] {-1, 6, 7, Integer.MAX_VALUE, Integer.MIN_VALUE}) {
-            CHECKS.due("mark(" + m + ", 0, true)", x.mark(m, 0, true), false);
-            CHECKS.due("mark(" + m + ", 9, true)", x.mark(m, 9, true), false);
-        }
-        for (int at : new int[] {-1, 4, Integer.MAX_VALUE, Integer.MIN_VALUE}) {
-            CHECKS.due("mark(1, " + at + ", false)", x.mark(1, at, false), false);
-            CHECKS.due("mark(0, " + at + ", false)", x.mark(0, at, false), false);
-        }
-        CHECKS.dueSame("refused marks", Checks.stateOf(x), before);
-        x.type('z');
-        x.insert(2);
-        CHECKS.due("a refused mark does not change the leaning", x.where(1), 3);
-    }
-
-    private static void unmarkTakesAway() {
+    static void unmarkTakesAway() {
         BranchingText x = Checks.holding("abc");
         x.mark(0, 0, true);
         x.mark(5, 0, false);
@@ -72,14 +44,7 @@ public final class MarksTest {
         CHECKS.due("where(0) again", x.where(0), 3);
     }
 
-    private static void whereRefuses() {
-        BranchingText x = Checks.holding("abc");
-        for (int m : new int[] {-1, 0, 5, 6, 7, Integer.MAX_VALUE, Integer.MIN_VALUE}) {
-            CHECKS.due("where(" + m + ")", x.where(m), BranchingText.BAD);
-        }
-    }
-
-    private static void nextMarkOfSeveral() {
+    static void nextMarkOfSeveral() {
         BranchingText x = Checks.holding("abcdefgh");
         x.mark(0, 6, false);
         x.mark(1, 3, true);
@@ -95,18 +60,6 @@ public final class MarksTest {
         CHECKS.due("nextMark(7)", x.nextMark(7), 3);
     }
 
-    private static void nextMarkRefuses() {
-        BranchingText x = Checks.holding("abc");
-        x.mark(0, 0, false);
-        x.mark(1, 3, false);
-        for (int p : new int[] {-1, 4, Integer.MAX_VALUE, Integer.MIN_VALUE}) {
-            CHECKS.due("nextMark(" + p + ")", x.nextMark(p), BranchingText.BAD);
-        }
-        x.delete(0, 3);
-        CHECKS.due("nextMark(1) of the emptied text", x.nextMark(1), BranchingText.BAD);
-        CHECKS.due("nextMark(0) of the emptied text", x.nextMark(0), 0);
-    }
-
     private static int afterComing(int place, boolean right, int at, int count) {
         return place > at || (place == at && right) ? place + count : place;
     }
@@ -116,7 +69,7 @@ public final class MarksTest {
     }
 
     /** Characters come by insert and redo, and by undo of a deletion. */
-    private static void comingMovesMarks() {
+    static void comingMovesMarks() {
         for (int at = 0; at <= 5; at++) {
             for (int place = 0; place <= 5; place++) {
                 for (int lean = 0; lean < 2; lean++) {
@@ -141,7 +94,7 @@ public final class MarksTest {
     }
 
     /** Characters go by delete and redo, and by undo of an insertion. */
-    private static void goingMovesMarks() {
+    static void goingMovesMarks() {
         for (int from = 0; from <= 5; from++) {
             for (int place = 0; place <= 8; place++) {
                 for (int lean = 0; lean < 2; lean++) {
@@ -167,7 +120,7 @@ public final class MarksTest {
     }
 
     /** Going to a sibling passes the parent, where the mark is squeezed: no shorter way would do. */
-    private static void goToMovesMarksByEveryStep() {
+    static void goToMovesMarksByEveryStep() {
         BranchingText x = Checks.holding("abcdef");
         x.delete(1, 4);
         x.goTo(1);
@@ -195,7 +148,7 @@ public final class MarksTest {
         CHECKS.due("where(1) in version 1", x.where(1), 6);
     }
 
-    private static void marksThatAreNotSetStaySo() {
+    static void marksThatAreNotSetStaySo() {
         BranchingText x = Checks.holding("abc");
         x.mark(0, 0, true);
         x.unmark(0);

@@ -16,14 +16,35 @@ public final class ModelTest {
     private static final int[] EDITING = {0, 0, 0, 0, 8, 10, 5, 5, 4, 0, 0, 0, 0, 0, 0, 0, 0, 0, 0, 3, 0, 4, 2};
 
     public static void main(String[] args) {
+        CHECKS.runAll(ModelTest.class);
+    }
+
+    static void allCallsAlike() {
         runs(1, 400, ALL_ALIKE, 0);
+    }
+
+    static void growing() {
         runs(2, 200, GROWING, 0);
+    }
+
+    static void branching() {
         runs(3, 600, BRANCHING, 0);
+    }
+
+    static void seeking() {
         runs(4, 400, SEEKING, 0);
+    }
+
+    static void filling() {
         runs(5, 200, FILLING, 40);
+    }
+
+    static void editingWithFortyInTheScratch() {
         runs(6, 200, EDITING, 40);
+    }
+
+    static void editingWithThreeInTheScratch() {
         runs(7, 200, EDITING, 3);
-        CHECKS.end("ModelTest");
     }
 
     private static void runs(int profile, int count, int[] weights, int typedFirst) {

@@ -3,22 +3,10 @@ public final class TextTest {
     private static final Checks CHECKS = new Checks();
 
     public static void main(String[] args) {
-        lengthAndAt();
-        linesOf("");
-        linesOf("\n");
-        linesOf("abc");
-        linesOf("abc\n");
-        linesOf("\nabc");
-        linesOf("\n\n\n");
-        linesOf("ab\n\ncd\ne");
-        linesFollowTheSteps();
-        findTheLeast();
-        findRefuses();
-        findReadsTheTextThatIsThere();
-        CHECKS.end("TextTest");
+        CHECKS.runAll(TextTest.class);
     }
 
-    private static void lengthAndAt() {
+    static void lengthAndAt() {
         BranchingText x = Checks.holding("ab\n~ ");
         CHECKS.due("length()", x.length(), 5);
         String text = "ab\n~ ";
@@ -37,7 +25,13 @@ public final class TextTest {
         CHECKS.due("at(0) of version 0", x.at(0), 0);
     }
 
-    private static void linesOf(String text) {
+    static void linesOfManyTexts() {
+        for (String text : new String[] {"", "\n", "abc", "abc\n", "\nabc", "\n\n\n", "ab\n\ncd\ne"}) {
+            dueLines(text);
+        }
+    }
+
+    private static void dueLines(String text) {
         BranchingText x = Checks.holding(text);
         String of = " of \"" + text.replace('\n', '/') + "\"";
         int line = 0;
@@ -59,7 +53,7 @@ public final class TextTest {
         }
     }
 
-    private static void linesFollowTheSteps() {
+    static void linesFollowTheSteps() {
         BranchingText x = Checks.holding("a\nb\nc");
         x.delete(1, 2);
         CHECKS.due("lines() behind delete", x.lines(), 2);
@@ -85,7 +79,7 @@ public final class TextTest {
         CHECKS.due("find leaves the scratch alone", x.scratch(), sought.length());
     }
 
-    private static void findTheLeast() {
+    static void findTheLeast() {
         String text = "abcabcab\nabc aab aaab";
         String[] soughts = {"a", "abc", "bca", "ab", "aab", "aa", "b\na", "\n", " ", text, "q", "abd", "aaab", text + "b", "bb"};
         for (String sought : soughts) {
@@ -93,27 +87,8 @@ public final class TextTest {
         }
     }
 
-    private static void findRefuses() {
-        BranchingText x = Checks.holding("abc");
-        for (int from : new int[] {4, -1, Integer.MAX_VALUE, Integer.MIN_VALUE}) {
-            CHECKS.due("find(" + from + ") of nothing", x.find(from), BranchingText.BAD);
-        }
-        for (int from = 0; from <= 3; from++) {
-            CHECKS.due("find(" + from + ") of nothing", x.find(from), BranchingText.EMPTY);
-        }
-        x.type('c');
-        CHECKS.due("find(3) of c", x.find(3), BranchingText.ABSENT);
-        for (int from : new int[] {4, -1, Integer.MAX_VALUE, Integer.MIN_VALUE}) {
-            CHECKS.due("find(" + from + ") of c", x.find(from), BranchingText.BAD);
-        }
-        BranchingText y = new BranchingText();
-        CHECKS.due("find(0) of nothing in the empty text", y.find(0), BranchingText.EMPTY);
-        y.type('c');
-        CHECKS.due("find(0) of c in the empty text", y.find(0), BranchingText.ABSENT);
-    }
-
     /** What a deletion leaves in memory behind the text must not be found. */
-    private static void findReadsTheTextThatIsThere() {
+    static void findReadsTheTextThatIsThere() {
         BranchingText x = Checks.holding("abcd");
         x.delete(2, 2);
         Checks.write(x, "cd");
