@@ -29,19 +29,39 @@ public final class FaceTest {
         CHECKS.due("ABSENT", BranchingText.ABSENT, -4);
     }
 
-    static void members() {
+    static void theClassItself() {
         CHECKS.due("modifiers of the class", BranchingText.class.getModifiers(), Modifier.PUBLIC | Modifier.FINAL);
+        CHECKS.dueSame("the class above it", BranchingText.class.getSuperclass().getName(), "java.lang.Object");
+        CHECKS.due("interfaces", BranchingText.class.getInterfaces().length, 0);
+        CHECKS.dueSame("its package", BranchingText.class.getPackageName(), "");
+    }
+
+    static void theConstructor() {
         Constructor<?>[] constructors = BranchingText.class.getDeclaredConstructors();
         CHECKS.due("constructors", constructors.length, 1);
         CHECKS.due("modifiers of the constructor", constructors[0].getModifiers(), Modifier.PUBLIC);
+        CHECKS.due("parameters of the constructor", constructors[0].getParameterCount(), 0);
+        CHECKS.due("what the constructor declares to throw", constructors[0].getExceptionTypes().length, 0);
+    }
+
+    static void fieldsInSight() {
         List<String> constants = new ArrayList<>();
         for (Field field : BranchingText.class.getDeclaredFields()) {
             if (!Modifier.isPrivate(field.getModifiers())) {
-                constants.add(field.getName());
+                constants.add(Modifier.toString(field.getModifiers()) + " " + field.getType() + " " + field.getName());
             }
         }
         Collections.sort(constants);
-        CHECKS.dueSame("constants in sight", constants.toString(), "[ABSENT, BAD, EMPTY, FULL]");
+        CHECKS.dueSame("constants in sight", String.join(", ", constants),
+            "public static final int ABSENT, public static final int BAD, public static final int EMPTY, public static final int FULL");
+    }
+
+    static void classesInside() {
+        for (Class<?> inside : BranchingText.class.getDeclaredClasses()) {
+            int modifiers = inside.getModifiers();
+            CHECKS.due("a class inside is in sight: " + inside, Modifier.isPublic(modifiers) || Modifier.isProtected(modifiers), false);
+            CHECKS.due("a class inside is static: " + inside, Modifier.isStatic(modifiers), true);
+        }
     }
 
     static void methods() {
@@ -52,6 +72,7 @@ public final class FaceTest {
                 inSight.add(told(method));
                 names.add(method.getName());
                 CHECKS.due("modifiers of " + told(method), method.getModifiers(), Modifier.PUBLIC);
+                CHECKS.due("what " + told(method) + " declares to throw", method.getExceptionTypes().length, 0);
             }
         }
         Collections.sort(inSight);

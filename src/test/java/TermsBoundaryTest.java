@@ -1,6 +1,7 @@
 import java.util.List;
 import java.util.function.Consumer;
 import java.util.function.Supplier;
+import java.util.function.ToIntFunction;
 
 /** The boundary cases that the sections "What it is" and "Terms" name. */
 public final class TermsBoundaryTest {
@@ -49,6 +50,49 @@ public final class TermsBoundaryTest {
         CHECKS.due("unmark", after511Calls().unmark(3), true);
         CHECKS.due("where", after511Calls().where(3), 1);
         CHECKS.due("nextMark", after511Calls().nextMark(1), 3);
+    }
+
+    /** wipe answers nothing, so the 512th call tells of the 511th. */
+    static void the511thCallMayBeWipe() {
+        BranchingText x = new BranchingText();
+        for (int call = 1; call <= 510; call++) {
+            x.type('a');
+        }
+        x.wipe();
+        CHECKS.due("scratch, call 512", x.scratch(), 0);
+    }
+
+    private static void due512Times(String what, ToIntFunction<BranchingText> call, int want) {
+        BranchingText x = new BranchingText();
+        for (int i = 1; i <= 512; i++) {
+            CHECKS.due(what + ", call " + i, call.applyAsInt(x), want);
+        }
+    }
+
+    /** "used for at most 512 calls": whichever they are, so all may be the same. */
+    static void all512CallsMayBeTheSame() {
+        due512Times("type of no character", x -> x.type((char) 9) ? 1 : 0, 0);
+        due512Times("scratch", BranchingText::scratch, 0);
+        due512Times("copy", x -> x.copy(0, 0), 0);
+        due512Times("insert", x -> x.insert(0), BranchingText.EMPTY);
+        due512Times("delete", x -> x.delete(0, 0), BranchingText.EMPTY);
+        due512Times("undo", BranchingText::undo, BranchingText.BAD);
+        due512Times("redo", BranchingText::redo, BranchingText.BAD);
+        due512Times("goTo", x -> x.goTo(0), 0);
+        due512Times("version", BranchingText::version, 0);
+        due512Times("versions", BranchingText::versions, 1);
+        due512Times("parent", x -> x.parent(0), BranchingText.BAD);
+        due512Times("children", x -> x.children(0), 0);
+        due512Times("length", BranchingText::length, 0);
+        due512Times("at", x -> x.at(0), 0);
+        due512Times("lines", BranchingText::lines, 1);
+        due512Times("lineStart", x -> x.lineStart(0), 0);
+        due512Times("lineOf", x -> x.lineOf(0), 0);
+        due512Times("find", x -> x.find(0), BranchingText.EMPTY);
+        due512Times("mark", x -> x.mark(5, 0, true) ? 1 : 0, 1);
+        due512Times("unmark", x -> x.unmark(5) ? 1 : 0, 0);
+        due512Times("where", x -> x.where(5), BranchingText.BAD);
+        due512Times("nextMark", x -> x.nextMark(0), BranchingText.BAD);
     }
 
     /** The dearest calls: from the first version to the last and back, as often as an object has calls. */

@@ -89,6 +89,18 @@ public final class VersionsBoundaryTest {
         CHECKS.dueText("redo()", x, "axyb");
     }
 
+    /** "Versions stay": also when the scratch was as long as it can be, and is overwritten from end to end. */
+    static void insertKeepsFortyCharacters() {
+        BranchingText x = Checks.holding(Starts.FORTY);
+        Checks.write(x, Checks.repeated('a', 40));
+        x.insert(40);
+        x.copy(0, 40);
+        CHECKS.dueText("copy over the scratch", x, Starts.FORTY + Checks.repeated('a', 40));
+        x.goTo(0);
+        CHECKS.due("goTo(2)", x.goTo(2), 2);
+        CHECKS.dueText("goTo(2)", x, Starts.FORTY + Checks.repeated('a', 40));
+    }
+
     /** "FULL when there are 122 versions": the last one by an insertion. */
     static void insertMakesThe122ndVersionAndNoMore() {
         BranchingText x = Starts.rowOfVersions(120);

@@ -1,7 +1,7 @@
 import java.util.function.Supplier;
 
 /**
- * What calls can tell of an object, save that a scratch which can't be inserted any more is only sought.
+ * What calls can tell of an object. A scratch that can't be inserted any more is only sought in each version.
  * It takes more calls than one object is good for, and some of them change it, so each part is read from a
  * new object that the same recipe makes.
  */
@@ -63,7 +63,6 @@ final class Whole {
     private void tellScratch() {
         BranchingText x = recipe.get();
         int end = x.length();
-        tell("found", x.find(0));
         tell("inserted", x.insert(end));
         tellText(x, end, x.length());
     }
@@ -88,6 +87,7 @@ final class Whole {
         tell("steps", x.goTo(v));
         int length = x.length();
         tell("length", length);
+        tell("found", x.find(0));
         tell("latest", x.redo());
         for (int from = 0; from < length; from += READ_AT_ONCE) {
             BranchingText y = recipe.get();
