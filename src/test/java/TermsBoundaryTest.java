@@ -62,37 +62,40 @@ public final class TermsBoundaryTest {
         CHECKS.due("scratch, call 512", x.scratch(), 0);
     }
 
-    private static void due512Times(String what, ToIntFunction<BranchingText> call, int want) {
+    /** Three calls make version 1, "a", with mark 5 at 1; all the others are the same one. */
+    private static void dueUpToCall512(String what, ToIntFunction<BranchingText> call, int want) {
         BranchingText x = new BranchingText();
-        for (int i = 1; i <= 512; i++) {
+        x.type('a');
+        x.insert(0);
+        x.mark(5, 1, true);
+        for (int i = 4; i <= 512; i++) {
             CHECKS.due(what + ", call " + i, call.applyAsInt(x), want);
         }
     }
 
-    /** "used for at most 512 calls": whichever they are, so all may be the same. */
-    static void all512CallsMayBeTheSame() {
-        due512Times("type of no character", x -> x.type((char) 9) ? 1 : 0, 0);
-        due512Times("scratch", BranchingText::scratch, 0);
-        due512Times("copy", x -> x.copy(0, 0), 0);
-        due512Times("insert", x -> x.insert(0), BranchingText.EMPTY);
-        due512Times("delete", x -> x.delete(0, 0), BranchingText.EMPTY);
-        due512Times("undo", BranchingText::undo, BranchingText.BAD);
-        due512Times("redo", BranchingText::redo, BranchingText.BAD);
-        due512Times("goTo", x -> x.goTo(0), 0);
-        due512Times("version", BranchingText::version, 0);
-        due512Times("versions", BranchingText::versions, 1);
-        due512Times("parent", x -> x.parent(0), BranchingText.BAD);
-        due512Times("children", x -> x.children(0), 0);
-        due512Times("length", BranchingText::length, 0);
-        due512Times("at", x -> x.at(0), 0);
-        due512Times("lines", BranchingText::lines, 1);
-        due512Times("lineStart", x -> x.lineStart(0), 0);
-        due512Times("lineOf", x -> x.lineOf(0), 0);
-        due512Times("find", x -> x.find(0), BranchingText.EMPTY);
-        due512Times("mark", x -> x.mark(5, 0, true) ? 1 : 0, 1);
-        due512Times("unmark", x -> x.unmark(5) ? 1 : 0, 0);
-        due512Times("where", x -> x.where(5), BranchingText.BAD);
-        due512Times("nextMark", x -> x.nextMark(0), BranchingText.BAD);
+    /** "used for at most 512 calls": whichever they are; of those that change nothing, each over and over. */
+    static void aCallMayBeMadeOverAndOver() {
+        dueUpToCall512("type of no character", x -> x.type((char) 9) ? 1 : 0, 0);
+        dueUpToCall512("scratch", BranchingText::scratch, 1);
+        dueUpToCall512("copy", x -> x.copy(0, 1), 1);
+        dueUpToCall512("insert", x -> x.insert(2), BranchingText.BAD);
+        dueUpToCall512("delete", x -> x.delete(1, 0), BranchingText.EMPTY);
+        dueUpToCall512("redo", BranchingText::redo, BranchingText.BAD);
+        dueUpToCall512("goTo", x -> x.goTo(1), 0);
+        dueUpToCall512("version", BranchingText::version, 1);
+        dueUpToCall512("versions", BranchingText::versions, 2);
+        dueUpToCall512("parent", x -> x.parent(1), 0);
+        dueUpToCall512("children", x -> x.children(0), 1);
+        dueUpToCall512("length", BranchingText::length, 1);
+        dueUpToCall512("at", x -> x.at(0), 'a');
+        dueUpToCall512("lines", BranchingText::lines, 1);
+        dueUpToCall512("lineStart", x -> x.lineStart(1), BranchingText.BAD);
+        dueUpToCall512("lineOf", x -> x.lineOf(1), 0);
+        dueUpToCall512("find", x -> x.find(0), 0);
+        dueUpToCall512("mark", x -> x.mark(5, 1, true) ? 1 : 0, 1);
+        dueUpToCall512("unmark", x -> x.unmark(4) ? 1 : 0, 0);
+        dueUpToCall512("where", x -> x.where(5), 1);
+        dueUpToCall512("nextMark", x -> x.nextMark(0), 5);
     }
 
     /** The dearest calls: from the first version to the last and back, as often as an object has calls. */
